@@ -30,10 +30,10 @@ public final class RhymeRoofs {
     private int bufferLength = 0;
     private int offsetOfError = -1;
     private final Game game = new Game();
-    // One game aside, for what is not (yet) true of the game: a setup being read, or steps played on.
-    private final Game aside = new Game();
+    // The game as it would go on; the game itself stays as it is when it is asked how it would end.
+    private final Game future = new Game();
     private final History history = new History();
-    private final SetupReader reader = new SetupReader(buffer, aside);
+    private final SetupReader reader = new SetupReader();
     private final Chains chains = new Chains();
 
     public RhymeRoofs() {
@@ -55,14 +55,14 @@ public final class RhymeRoofs {
         if (length < 0 || length > bufferLength) {
             throw new IllegalArgumentException("the buffer has not so many bytes");
         }
-        int error = reader.read(length);
+        int error = reader.read(buffer, length);
         bufferLength = 0;
         offsetOfError = reader.errorAt;
         if (error != 0) {
             return error;
         }
         history.keep(game);
-        game.copyFrom(aside);
+        game.copyFrom(reader.game);
         return game.wordsOfHands();
     }
 
@@ -187,14 +187,14 @@ public final class RhymeRoofs {
     }
 
     public int winner() {
-        aside.copyFrom(game);
-        aside.playOn(STEPS_WITHOUT_LIMIT);
-        return aside.leader();
+        future.copyFrom(game);
+        future.playOn(STEPS_WITHOUT_LIMIT);
+        return future.leader();
     }
 
     public int stepsToEnd() {
-        aside.copyFrom(game);
-        return aside.playOn(STEPS_WITHOUT_LIMIT);
+        future.copyFrom(game);
+        return future.playOn(STEPS_WITHOUT_LIMIT);
     }
 
     public float covered() {
@@ -985,9 +985,9 @@ public final class RhymeRoofs {
         static final int NO_OPERATOR = 0;
         static final int NO_FACT = 0;
 
+        final Game game = new Game();
         int errorAt = -1;
-        private final int[] text;
-        private final Game game;
+        private final int[] text = new int[MAX_BYTES];
         private int end;
         private int at;
         private int error;
@@ -997,14 +997,10 @@ public final class RhymeRoofs {
         private boolean handTold;
         private int grouped;
 
-        SetupReader(int[] text, Game game) {
-            this.text = text;
-            this.game = game;
-        }
-
-        /** Reads so many bytes into the game; returns 0, or the code of the error that is at errorAt. */
-        int read(int length) {
-            end = Math.min(length, text.length);
+        /** Reads a setup into the game here; returns 0, or the code of the error that is at errorAt. */
+        int read(int[] bytes, int length) {
+            end = Math.min(length, Math.min(bytes.length, text.length));
+            System.arraycopy(bytes, 0, text, 0, end);
             at = 0;
             error = 0;
             errorAt = -1;

@@ -12,6 +12,7 @@ public final class ChainTest {
         everyOrderOfEightWords();
         chainsOfAnyPlayerAtAnyTime();
         threatsOfPlayers();
+        playersAreSearchedApart();
         exceptions();
         Check.end();
     }
@@ -126,6 +127,17 @@ public final class ChainTest {
         x.pass();
         Check.due("over", x.state(6), 1);
         Check.due("threats when over", x.threats(0), 13);
+    }
+
+    private static void playersAreSearchedApart() {
+        RhymeRoofs x = Check.loaded("roof 3 6;need 2;hand 0 cat hat;hand 1 frog;");
+        Check.due("fillings of 0", x.fillings(0, 0), 2);
+        Check.due("fillings of 1", x.fillings(1, 0), 0);
+        Check.due("worth of 0", x.worth(0, 1), 3 + 5 + 10);
+        Check.due("worth of 1", x.worth(1, 1), 4);
+        Check.due("chain of 0", x.chain(0, 1), 2);
+        Check.due("chain of 1", x.chain(1, 0), 0);
+        Check.due("fillings of 0 again", x.fillings(0, 1), 2);
     }
 
     private static void exceptions() {

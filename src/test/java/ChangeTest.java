@@ -7,6 +7,7 @@ public final class ChangeTest {
         finalChangesStayFinal();
         undoneChangesDoNotCount();
         undoOfLoad();
+        undoOfLaidLetters();
         undoKeepsTheBuffer();
         checksumOfANewObject();
         checksumByItsWords();
@@ -107,6 +108,18 @@ public final class ChangeTest {
         x.pass();
         x.pass();
         Check.due("rank", x.play(0, 0, 1), 77);
+    }
+
+    private static void undoOfLaidLetters() {
+        RhymeRoofs x = Check.loaded("roof 9;hand 0 cat;hand 1 a;");
+        x.lay(0, 0);
+        Check.load(x, "roof 9;hand 0 dog;hand 1 a;");
+        x.lay(0, 0);
+        Check.due("tile", x.tile(0, 0), 'd' - 'a');
+        x.undo();
+        x.undo();
+        Check.due("tile 0", x.tile(0, 0), 'c' - 'a');
+        Check.due("tile 2", x.tile(0, 2), 't' - 'a');
     }
 
     private static void undoKeepsTheBuffer() {

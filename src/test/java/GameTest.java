@@ -16,6 +16,7 @@ public final class GameTest {
         winnerOfEqualPoints();
         queriesChangeNothing();
         coveredTiles();
+        sixRowsAndFourPlayers();
         givenWords();
         giveExceptions();
         giveKeepsPasses();
@@ -113,6 +114,9 @@ public final class GameTest {
         y.lay(0, 0);
         Check.due("points of the last word, without the half", y.lay(0, 1), 1);
         Check.due("half of 1 is cut for each row", y.player(0, 2) + y.player(1, 2), 2);
+        RhymeRoofs w = Check.loaded("roof 5;hand 0 abcd;");
+        Check.due("a row with one free tile", w.lay(0, 0), 4);
+        Check.due("half of 4", w.player(0, 2), 6);
         RhymeRoofs z = Check.loaded("roof 9 9;need 1;hand 0 abc xyz;");
         z.lay(0, 0);
         z.pass();
@@ -218,6 +222,31 @@ public final class GameTest {
         RhymeRoofs y = Check.loaded("roof 3;hand 0 cat;");
         y.lay(0, 0);
         Check.dueFloat("covered", y.covered(), 1f);
+        RhymeRoofs z = Check.loaded("roof 1;hand 0 a;");
+        z.lay(0, 0);
+        Check.dueFloat("one tile covered", z.covered(), 1f);
+    }
+
+    private static void sixRowsAndFourPlayers() {
+        RhymeRoofs x = Check.loaded("roof 3 3 3 3 3 1;players 4;crown 0;hand 3 abc d;hand 0 a;hand 2 bb;hand 1 c cc;");
+        x.lay(0, 0);
+        x.lay(0, 1);
+        x.lay(0, 2);
+        x.lay(1, 5);
+        Check.due("words on rows", x.state(8), 4);
+        Check.due("filled rows", x.state(9), 1);
+        Check.due("rows of 3", x.player(3, 3), 1);
+        Check.dueFloat("covered", x.covered(), 5f / 16f);
+        Check.due("winner", x.winner(), 1);
+        x.pass();
+        x.lay(0, 4);
+        x.pass();
+        x.lay(0, 3);
+        Check.due("over", x.state(6), 1);
+        Check.due("points of 1", x.player(1, 2), 4);
+        Check.due("points of 2", x.player(2, 2), 3);
+        Check.due("points of 3", x.player(3, 2), 4);
+        Check.due("smallest of the most points", x.winner(), 1);
     }
 
     private static void givenWords() {

@@ -12,6 +12,7 @@ public final class SetupTest {
         lengthOfLoad();
         loadEmptiesTheBuffer();
         loadReplacesAllData();
+        eachLoadStartsAnew();
         errorKeepsTheData();
         errorOffsetIsOfTheLatestLoad();
         textsThatAreRight();
@@ -99,6 +100,15 @@ public final class SetupTest {
         Check.dueOutOfBounds("loaded anew: player 2", () -> x.player(2, 0));
     }
 
+    private static void eachLoadStartsAnew() {
+        RhymeRoofs x = Check.loaded("roof 9;alike ab;need 3;rank 5;hand 0 a b c d e f g h;");
+        Check.due("the same statements again", Check.load(x, "roof 9;players 3;alike ab;need 3;rank 5;hand 0 a;"), 1);
+        Check.due("an error", Check.load(x, "roof 9;hand 0 a;alike cd;players 2;"), SYNTAX);
+        Check.due("right behind an error", Check.load(x, "roof 9;players 3;alike cd;hand 0 a;"), 1);
+        Check.due("errorOffset", x.errorOffset(), -1);
+        Check.due("right behind spaces of a longer text", Check.load(x, "roof 9;"), 0);
+    }
+
     private static void errorKeepsTheData() {
         RhymeRoofs x = Check.loaded("roof 4 7;players 3;alike xyz;rank left;hand 2 abcd xyz;");
         x.pass();
@@ -160,6 +170,10 @@ public final class SetupTest {
         Check.dueError("    ", SYNTAX, 4);
         Check.dueError("roo", SYNTAX, 0);
         Check.dueError("roo 1;", SYNTAX, 0);
+        Check.dueError("xoof 1;", SYNTAX, 0);
+        Check.dueError("roox 1;", SYNTAX, 0);
+        Check.dueError("1 roof 1;", SYNTAX, 0);
+        Check.dueError(";roof 1;", SYNTAX, 0);
         Check.dueError("  roofs 1;", SYNTAX, 2);
         Check.dueError("Roof 1;", SYNTAX, 0);
         Check.dueError("need 1;", SYNTAX, 0);
@@ -207,6 +221,9 @@ public final class SetupTest {
     private static void errorsOfWords() {
         Check.dueError("roof 9;needs 1;", SYNTAX, 7);
         Check.dueError("roof 9;nee 1;", SYNTAX, 7);
+        for (String word : new String[] {"xlayers", "xeed", "xonus", "xrown", "xlike", "xand", "xank"}) {
+            Check.dueError("roof 9;" + word + " 1;", SYNTAX, 7);
+        }
         Check.dueError("roof 9; x;", SYNTAX, 8);
         Check.dueError("roof 9;9;", SYNTAX, 7);
         Check.dueError("roof 9;left 1;", SYNTAX, 7);
@@ -253,6 +270,13 @@ public final class SetupTest {
         Check.dueError("roof 9;rank;", SYNTAX, 11);
         Check.dueError("roof 9;rank x;", SYNTAX, 12);
         Check.dueError("roof 9;rank need;", SYNTAX, 12);
+        Check.dueError("roof 9;rank ;", SYNTAX, 12);
+        Check.dueError("roof 9;rank (1+x);", SYNTAX, 15);
+        Check.dueError("roof 9;rank 1*(2 3);", SYNTAX, 17);
+        Check.dueError("roof 9;rank 1*(10000);", RANGE, 15);
+        for (String word : new String[] {"xoints", "xetters", "xhyme", "xeft", "xull", "xand", "point", "handa"}) {
+            Check.dueError("roof 9;rank 1+" + word + ";", SYNTAX, 14);
+        }
         Check.dueError("roof 9;rank -1;", SYNTAX, 12);
         Check.dueError("roof 9;rank 1+;", SYNTAX, 14);
         Check.dueError("roof 9;rank 1*;", SYNTAX, 14);
