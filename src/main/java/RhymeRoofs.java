@@ -23,7 +23,7 @@ public final class RhymeRoofs {
     private static final int ROW_NUMBERS = 4;
     private static final int PLAYER_NUMBERS = 4;
 
-    // A game ends after far fewer steps: each word is laid once, and players pass at most once between two words.
+    // A game ends after far fewer steps: each word is laid once, and no player passes twice between two words.
     private static final int STEPS_WITHOUT_LIMIT = 1000000;
 
     private final int[] buffer = new int[MAX_BYTES];
@@ -204,7 +204,7 @@ public final class RhymeRoofs {
             letters += game.lettersOn[r];
             tiles += game.rules.tiles[r];
         }
-        return tiles == 0 ? 0 : (float) letters / (float) tiles;
+        return tiles == 0 ? 0f : (float) letters / (float) tiles;
     }
 
     public int lay(int place, int row) throws IndexOutOfBoundsException, IllegalStateException {
