@@ -6,14 +6,24 @@ final class Check {
 
     private static final int BYTES_APPENDED = 20;
     private static int wrong = 0;
+    private static String sentence = "";
 
     private Check() {
     }
 
+    /** The sentence of the document that is broken if a check behind this fails. */
+    static void sentence(String words) {
+        sentence = " [" + words + "]";
+    }
+
+    private static void complain(String what) {
+        wrong++;
+        System.out.println(what + sentence);
+    }
+
     static void due(String call, long got, long want) {
         if (got != want) {
-            wrong++;
-            System.out.println(call + " answered " + got + ", due is " + want);
+            complain(call + " answered " + got + ", due is " + want);
         }
     }
 
@@ -23,8 +33,7 @@ final class Check {
 
     static void dueFloat(String call, float got, float want) {
         if (got != want) {
-            wrong++;
-            System.out.println(call + " answered " + got + ", due is " + want);
+            complain(call + " answered " + got + ", due is " + want);
         }
     }
 
@@ -39,8 +48,7 @@ final class Check {
             }
             got = e.getClass().getName();
         }
-        wrong++;
-        System.out.println(call + " threw " + got + ", due is " + want.getName());
+        complain(call + " threw " + got + ", due is " + want.getName());
     }
 
     static void dueOutOfBounds(String call, Call body) {
