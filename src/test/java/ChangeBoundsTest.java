@@ -38,7 +38,7 @@ public final class ChangeBoundsTest {
     }
 
     private static void loadIsAChange() {
-        Check.sentence("The changing methods are load (when it succeeds)");
+        Check.sentence("The changing methods are load (when it succeeds), lay, pass, auto and give");
         RhymeRoofs x = Check.loaded(SETUP);
         long before = x.checksum();
         Check.load(x, "roof 0;");
@@ -51,7 +51,7 @@ public final class ChangeBoundsTest {
     }
 
     private static void layIsAChange() {
-        Check.sentence("The changing methods are load (when it succeeds), lay");
+        Check.sentence("The changing methods are load (when it succeeds), lay, pass, auto and give");
         RhymeRoofs x = Check.loaded(SETUP);
         long before = x.checksum();
         x.lay(1, 0);
@@ -61,7 +61,7 @@ public final class ChangeBoundsTest {
     }
 
     private static void passIsAChange() {
-        Check.sentence("lay, pass");
+        Check.sentence("The changing methods are load (when it succeeds), lay, pass, auto and give");
         RhymeRoofs x = Check.loaded(SETUP);
         x.pass();
         x.pass();
@@ -74,7 +74,7 @@ public final class ChangeBoundsTest {
     }
 
     private static void autoIsAChange() {
-        Check.sentence("lay, pass, auto");
+        Check.sentence("The changing methods are load (when it succeeds), lay, pass, auto and give");
         RhymeRoofs x = Check.loaded(SETUP);
         long before = x.checksum();
         Check.due("all steps", x.auto(50), 7);
@@ -83,7 +83,7 @@ public final class ChangeBoundsTest {
     }
 
     private static void giveIsAChange() {
-        Check.sentence("lay, pass, auto and give");
+        Check.sentence("The changing methods are load (when it succeeds), lay, pass, auto and give");
         RhymeRoofs x = Check.loaded(SETUP);
         Check.give(x, 2, "mat");
         Check.due("words", x.player(2, 0), 2);
@@ -108,7 +108,7 @@ public final class ChangeBoundsTest {
     }
 
     private static void queriesAreNoChanges() {
-        Check.sentence("The changing methods are");
+        Check.sentence("The changing methods are load (when it succeeds), lay, pass, auto and give");
         RhymeRoofs x = Check.loaded(SETUP);
         x.lay(0, 0);
         long before = x.checksum();
@@ -458,13 +458,24 @@ public final class ChangeBoundsTest {
         Check.due("undo", x.undo(), 0);
         Check.due("undo", x.undo(), -1);
         Check.due("checksum", x.checksum(), before);
-        change(x, 9);
+        RhymeRoofs y = Check.loaded(SETUP);
+        y.lay(0, 0);
+        y.pass();
+        Check.load(y, "roof");
         for (int i = 0; i < 8; i++) {
-            x.undo();
+            y.auto(1);
         }
-        long first = x.checksum();
-        Check.due("only a final change", x.undo(), -1);
-        Check.due("checksum", x.checksum(), first);
+        for (int i = 0; i < 8; i++) {
+            y.undo();
+        }
+        Check.append(y, "abc");
+        long behindThePass = y.checksum();
+        Check.due("only final changes", y.undo(), -1);
+        Check.due("checksum", y.checksum(), behindThePass);
+        Check.due("passes", y.state(7), 1);
+        Check.due("turn", y.state(5), 2);
+        Check.due("errorOffset", y.errorOffset(), 4);
+        Check.due("length of the buffer", y.append(0, 0, 0, 0, 0), 40);
     }
 
     /** The numbers of the checksum, by what the other methods tell. */

@@ -7,6 +7,7 @@ public final class GameBoundsTest {
         lettersOfAWord();
         rowsOfARoof();
         tilesOfARow();
+        tilesOfAllRows();
         playersOfAGame();
         wordsOfAHand();
         pointsAtFirst();
@@ -97,6 +98,30 @@ public final class GameBoundsTest {
         Check.due("the tile", x.tile(0, 0), 25);
         Check.dueError("roof 0;", RANGE, 5);
         Check.dueError("roof 40 41;", RANGE, 8);
+    }
+
+    private static void tilesOfAllRows() {
+        Check.sentence("There are 1 to 6 rows, with indexes from 0; a row has 1 to 40 tiles.");
+        String[] words = {"abcdefgx", "bcdefghx", "cdefghix", "defghijx"};
+        StringBuilder setup = new StringBuilder("roof 40 40 40 40 40 40;players 4;need 1;bonus 0;crown 0;");
+        for (int p = 0; p < 4; p++) {
+            setup.append("hand ").append(p);
+            for (int place = 0; place < 8; place++) {
+                setup.append(' ').append(words[p]);
+            }
+            setup.append(';');
+        }
+        RhymeRoofs x = Check.loaded(setup.toString());
+        for (int i = 0; i < 30; i++) {
+            Check.due("word " + i, x.lay(0, i / 5), 8);
+        }
+        for (int t = 0; t < 240; t++) {
+            String word = words[t / 8 % 4];
+            Check.due("tile " + t % 40 + " of row " + t / 40, x.tile(t / 40, t % 40), word.charAt(t % 8) - 'a');
+        }
+        Check.due("full rows", x.state(9), 6);
+        Check.dueFloat("covered", x.covered(), 1f);
+        Check.due("a word left", x.why(0, 5), 2);
     }
 
     private static void playersOfAGame() {

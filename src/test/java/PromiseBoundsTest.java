@@ -152,6 +152,10 @@ public final class PromiseBoundsTest {
         Check.due("steps to the end", x.stepsToEnd(), 1);
         Check.due("winner", x.winner(), 0);
         Check.dueFloat("covered", x.covered(), 0f);
+        for (int i = 0; i < 3; i++) {
+            Check.due("the same statements again", Check.load(x,
+                    "roof 8;players 4;need 1;bonus 9;crown 99;alike abc;rank 7;hand 3 a b c d e f g h;"), 8);
+        }
     }
 
     private static void bufferEmptyBehindLoad() {
@@ -577,10 +581,6 @@ public final class PromiseBoundsTest {
         RhymeRoofs y = Check.loaded("roof 5;need 4;hand 0 cat;hand 1 cat;");
         y.lay(0, 0);
         Check.due("2 of 2, 3 and 4", y.why(0, 0), 2);
-        y.pass();
-        y.pass();
-        y.undo();
-        Check.due("not over", y.state(6), 0);
     }
 
     private static void playOfAWord() {
@@ -707,6 +707,10 @@ public final class PromiseBoundsTest {
         RhymeRoofs y = Check.loaded("roof 40 40 40 40 40 40;hand 0 abcdefg;");
         y.lay(0, 3);
         Check.dueFloat("7 of 240", y.covered(), 7f / 240f);
+        RhymeRoofs z = Check.loaded("roof 1;hand 0 a;");
+        Check.dueFloat("none of 1", z.covered(), 0f);
+        z.lay(0, 0);
+        Check.dueFloat("1 of 1", z.covered(), 1f);
     }
 
     private static void layAWord() {
@@ -732,7 +736,7 @@ public final class PromiseBoundsTest {
         Check.due("dogs on the other row", x.why(2, 1), 0);
         x.pass();
         x.pass();
-        Check.due("not over", x.state(6), 1);
+        Check.due("over", x.state(6), 1);
         Check.dueIllegalState("over", () -> x.lay(0, 1));
     }
 

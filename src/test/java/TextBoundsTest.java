@@ -389,6 +389,13 @@ public final class TextBoundsTest {
         Check.dueError("roof 9;rank (((10000+((", RANGE, 15);
         Check.dueError("roof 9;hand 0 abcdefghi a a a a a a a a ?", RANGE, 14);
         Check.dueError("roof 9;hand 0 a ? abcdefghi", SYNTAX, 16);
+        Check.dueError("roof 9;alike;need 9;", SYNTAX, 12);
+        Check.dueError("roof 9;hand 0;need 9;", SYNTAX, 13);
+        Check.dueError("roof 9;rank;need 9;", SYNTAX, 11);
+        Check.dueError("roof 9;rank 1+;need 9;", SYNTAX, 14);
+        Check.dueError("roof 9;need;need 9;", SYNTAX, 11);
+        Check.dueError("roof;need 9;", SYNTAX, 4);
+        Check.dueError("9;need 9;", SYNTAX, 0);
         Check.dueError("roof 41", RANGE, 5);
         Check.dueError("roof 9;alike abA", SYNTAX, 15);
         Check.dueError("roof 9;alike aaA", REPEATED, 14);
